@@ -71,6 +71,25 @@ final class BitWriter {
         return this;
     }
 
+    /** A symbol by the codes that these lengths make. */
+    BitWriter symbol(int[] lengths, int symbol) {
+        int code = 0;
+        for (int length = 1; length <= lengths[symbol]; length++) {
+            code <<= 1;
+            for (int other = 0; other < lengths.length; other++) {
+                boolean comesBefore = length < lengths[symbol] || other < symbol;
+                if (lengths[other] == length && comesBefore) {
+                    code++;
+                }
+            }
+        }
+        return code(code, lengths[symbol]);
+    }
+
+    int bits() {
+        return out.size() * 8 + used;
+    }
+
     byte[] bytes() {
         toFullByte();
         return out.toByteArray();
