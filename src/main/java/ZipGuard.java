@@ -45,7 +45,7 @@ public final class ZipGuard {
             throw new IllegalArgumentException();
         }
         directory.shut();
-        tape.length = n;
+        tape.keepFirst(n);
     }
 
     public int alter(int i, int b) throws IndexOutOfBoundsException {
@@ -176,6 +176,12 @@ public final class ZipGuard {
             }
         }
 
+        void keepFirst(int n) {
+            if (n >= 0 && n <= length) {
+                length = n;
+            }
+        }
+
         int replace(int i, int b) {
             int before = byteAt(i);
             if (i >= 0 && i < length) {
@@ -253,24 +259,20 @@ public final class ZipGuard {
             isFolder = nameLength > 0 && nameBytes[nameLength - 1] == '/';
         }
 
-        int bareLength() {
-            return isFolder ? nameLength - 1 : nameLength;
-        }
-
-        /** Whether both want the same place in the target, or one of them lies in a file. */
+        /**
+         * Whether both have the same name, or one of them lies in a file. A folder with a file's
+         * name needs no look of its own: its '/' makes it lie in the file.
+         */
         boolean clashesWith(Entry other) {
-            Entry shorter = bareLength() <= other.bareLength() ? this : other;
+            Entry shorter = nameLength <= other.nameLength ? this : other;
             Entry longer = shorter == this ? other : this;
-            int n = shorter.bareLength();
+            int n = shorter.nameLength;
             for (int k = 0; k < n; k++) {
                 if (shorter.nameBytes[k] != longer.nameBytes[k]) {
                     return false;
                 }
             }
-            if (n == longer.bareLength()) {
-                return true;
-            }
-            return !shorter.isFolder && longer.nameBytes[n] == '/';
+            return n == longer.nameLength || !shorter.isFolder && longer.nameBytes[n] == '/';
         }
 
         int behindPacked() {

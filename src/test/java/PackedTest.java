@@ -314,13 +314,12 @@ public final class PackedTest {
         }
     }
 
-    /** The codes for lengths that repeat: 0 is code 0, 1 is 10, 18 is 110, 17 is 1110, 16 is 1111. */
-    private static BitWriter repeating(int symbols, int distances) {
-        return bits().head(true, 2).ownCodes(symbols, distances, 1, 2, 0, 0, 0, 0, 0, 0, 0, 0, 0, 0, 0, 0, 0, 0,
-                REPEATING[16], REPEATING[17], REPEATING[18]);
-    }
-
+    /** A code for lengths that repeat: 0 is code 0, 1 is 10, 18 is 110, 16 is 1110, 17 is 1111. */
     private static final int[] REPEATING = {1, 2, 0, 0, 0, 0, 0, 0, 0, 0, 0, 0, 0, 0, 0, 0, 4, 4, 3};
+
+    private static BitWriter repeating(int symbols, int distances) {
+        return bits().head(true, 2).ownCodes(symbols, distances, REPEATING);
+    }
 
     private static BitWriter repeat(BitWriter bits, int symbol, int times) {
         bits.symbol(REPEATING, symbol);

@@ -87,6 +87,8 @@ public final class TapeTest {
         Checks.due("alter(19, 0x100)", x.alter(19, 0x100), 254);
         Checks.due("alter(19, 0)", x.alter(19, 0), 0);
         Checks.due("alter(18, 0)", x.alter(18, 0), 0);
+        Checks.due("alter(0, 77)", x.alter(0, 77), 0);
+        Checks.due("alter(0, 78)", x.alter(0, 78), 77);
         Checks.dueThrow("alter(20, 1)", IndexOutOfBoundsException.class, () -> x.alter(20, 1));
         Checks.dueThrow("alter(-1, 1)", IndexOutOfBoundsException.class, () -> x.alter(-1, 1));
         Checks.dueThrow("alter(max, 1)", IndexOutOfBoundsException.class,
