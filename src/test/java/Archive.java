@@ -180,7 +180,7 @@ final class Archive {
         guard.end(tape.length);
     }
 
-    private static int number(byte[] tape, int i) {
+    static int number(byte[] tape, int i) {
         int number = 0;
         for (int k = 0; k < 4; k++) {
             number = number << 8 | (i + k < tape.length ? tape[i + k] & 255 : 0);

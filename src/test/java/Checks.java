@@ -10,9 +10,36 @@ final class Checks {
         void run();
     }
 
+    /** A test of its own for one sentence of the document, which is told if it does not hold. */
+    static void holds(String sentence, Call test) {
+        int askedBefore = asked;
+        int wrongBefore = wrong;
+        try {
+            test.run();
+        } catch (RuntimeException e) {
+            wrong++;
+            System.out.println("the test itself threw " + e);
+        }
+        if (asked == askedBefore) {
+            wrong++;
+            System.out.println("the test asked nothing");
+        }
+        if (wrong > wrongBefore) {
+            System.out.println("does not hold: " + sentence);
+        }
+    }
+
     static void due(String call, long got, long want) {
         asked++;
         if (got != want) {
+            wrong++;
+            System.out.println(call + " answered " + got + ", due is " + want);
+        }
+    }
+
+    static void due(String call, String got, String want) {
+        asked++;
+        if (!got.equals(want)) {
             wrong++;
             System.out.println(call + " answered " + got + ", due is " + want);
         }
