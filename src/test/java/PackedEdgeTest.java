@@ -27,6 +27,8 @@ public final class PackedEdgeTest {
         Checks.holds("kind 0: a number of two bytes, how many follow", PackedEdgeTest::howManyFollow);
         Checks.holds("kind 0: another one that must be its bits turned (31 if not)", PackedEdgeTest::bitsTurned);
         Checks.holds("kind 0: then these bytes, each read (30) and written", PackedEdgeTest::readThenWritten);
+        Checks.holds("CODES, .. the first one highest, by lengths from 1 on and then in the order of symbols",
+                PackedEdgeTest::codesInOrder);
         Checks.holds("kind 1: lengths 8 for the symbols 0 to 143, 9 to 255, 7 to 279, 8 to 287, and 5 for 32 distances",
                 PackedEdgeTest::kind1);
         Checks.holds("30 bits are wanted that are not there", PackedEdgeTest::bitsNotThere);
@@ -59,6 +61,8 @@ public final class PackedEdgeTest {
         Checks.holds("33: .. or just one, and its length 1", PackedEdgeTest::oneDistance);
         Checks.holds("33: .. a set that is not RIGHT: distances", PackedEdgeTest::distanceSets);
         Checks.holds("33: .. no length for the symbol 256", PackedEdgeTest::noLengthFor256);
+        Checks.holds("33: .. looked at set by set, 256 first, then symbols, then distances",
+                PackedEdgeTest::severalWrongSets);
         Checks.holds("33: .. (the code for lengths right behind its own)", PackedEdgeTest::codeForLengthsAtOnce);
     }
 
@@ -206,6 +210,18 @@ public final class PackedEdgeTest {
         Checks.due("30 before 21", y.take(0), 30);
         Checks.due("21", y.take(1), 21);
         Checks.due("about(2)", y.about(2), 32);
+    }
+
+    /** The codes are written out here: none of them is reckoned. */
+    private static void codesInOrder() {
+        int[] symbols = set(258, 'a', 2, 'b', 1, 'c', 3, 256, 4, 257, 4);
+        int[] distances = {3, 3, 1, 2};
+        byte[] packed = ownBlock(symbols, distances).code(0b10, 2).code(0b0, 1).code(0b110, 3).code(0b1111, 4)
+                .code(0b0, 1).code(0b1111, 4).code(0b111, 3).code(0b1110, 4).bytes();
+        takeDue("three back, then two", packed, 0, "abcabcbcb");
+        byte[] others = ownBlock(symbols, distances).code(0b110, 3).code(0b0, 1).code(0b10, 2).code(0b0, 1)
+                .code(0b1111, 4).code(0b10, 2).code(0b1111, 4).code(0b110, 3).code(0b1110, 4).bytes();
+        takeDue("four back, then one", others, 0, "cbabcbaaaa");
     }
 
     private static void kind1() {
@@ -579,6 +595,19 @@ public final class PackedEdgeTest {
         setsDue("full without 256", set(257, 'a', 1, 'b', 1), new int[1], false);
         setsDue("full with 257 but without 256", set(258, 'a', 1, 257, 1), new int[1], false);
         setsDue("full with 256 and 257", set(258, 'a', 1, 256, 2, 257, 2), new int[1], true);
+    }
+
+    /** Whatever else is wrong with them, the answer is one; a right set beside a wrong one does not help. */
+    private static void severalWrongSets() {
+        int[] noEnd = set(257, 'a', 1, 'b', 1);
+        int[] noEndAndWrong = set(257, 'a', 1, 'b', 2);
+        int[] wrong = set(257, 'a', 1, 256, 2);
+        for (int[] symbols : new int[][] {noEnd, noEndAndWrong, wrong}) {
+            setsDue("no distances", symbols, new int[1], false);
+            setsDue("right distances", symbols, new int[] {1, 1}, false);
+            setsDue("wrong distances", symbols, new int[] {1, 2}, false);
+        }
+        setsDue("wrong distances alone", RIGHT, new int[] {1, 2}, false);
     }
 
     /** Nothing of the row is there: with a right code that is 30, with another one 33. */
