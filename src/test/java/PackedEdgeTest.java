@@ -634,6 +634,17 @@ public final class PackedEdgeTest {
         byte[] blocks = bits().head(false, 1).fixed(256).head(false, 1).fixed(256).head(true, 1).fixed(255).fixed(256)
                 .bytes();
         takeDue("empty blocks", blocks, 0, "\u00ff");
+        // A bit for each symbol: the most symbols that packed bytes can hold.
+        BitWriter many = ownBlock(RIGHT, new int[1]);
+        for (int k = 0; k < 16000; k++) {
+            many.symbol(RIGHT, 'a');
+        }
+        takeDue("16000 symbols of one bit", many.symbol(RIGHT, 256).bytes(), 0, "a".repeat(16000));
+        BitWriter empty = bits();
+        for (int k = 0; k < 8000; k++) {
+            empty.head(false, 1).fixed(256);
+        }
+        takeDue("8000 empty blocks", empty.head(true, 1).fixed(256).bytes(), 0, "");
     }
 
     /** Each symbol with the least and the most of its further bits: the next one goes on from there. */
@@ -667,15 +678,15 @@ public final class PackedEdgeTest {
         Checks.due("behind the last one", least, 32769);
     }
 
-    /** As many bytes as the distance, then three of them again. */
+    /** As many bytes as the distance, three of them again, then one that no other bits make. */
     private static void distanceDue(int symbol, int further, int more, int distance) {
         BitWriter bits = bits().head(true, 1);
         String due = manyBytes(bits, distance);
         for (int k = 0; k < 3; k++) {
             due += due.charAt(due.length() - distance);
         }
-        byte[] packed = bits.fixed(257).code(symbol, 5).put(more, further).fixed(256).bytes();
-        takeDue("distance " + distance, packed, 0, due);
+        byte[] packed = bits.fixed(257).code(symbol, 5).put(more, further).fixed('z').fixed(256).bytes();
+        takeDue("distance " + distance, packed, 0, due + "z");
     }
 
     /** "abc" first, so that what comes from the very beginning can be told, then zeros. */
